@@ -572,7 +572,7 @@ public final class ChamberPacer {
         }
 
         private int place(int k) {
-            return (next - 1 - k + 2 * KEPT) % KEPT;
+            return (next + KEPT - 1 - k) % KEPT;
         }
     }
 

@@ -3,6 +3,11 @@ final class Check {
     /** When the first cycle of a new, quiet object ends: A is paced at 85, V at 100. */
     static final int FIRST_BOUNDARY = 100;
 
+    /** The parameters' ranges and values at first, by their numbers. */
+    static final int[] LEAST = {0, 30, 20, 5, 10, 10, 5, 0, 0, 1, 1, 0, 25, 10};
+    static final int[] MOST = {7, 200, 120, 30, 60, 60, 60, 10, 60, 500, 500, 1, 150, 60};
+    static final int[] AT_FIRST = {7, 100, 50, 15, 25, 30, 20, 4, 0, 10, 20, 0, 50, 25};
+
     private static int compared = 0;
     private static int wrong = 0;
 

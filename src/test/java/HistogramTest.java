@@ -1,6 +1,7 @@
 /** Promise 13: the cycles by their ticks. */
 public final class HistogramTest {
     public static void main(String[] args) {
+        theFirstCycleIsFromTimeZero();
         cyclesAreInTheirBins();
         theLeadingChamberEndsACycle();
         aCycleMayHaveNoTick();
@@ -12,6 +13,15 @@ public final class HistogramTest {
         for (int bin = 0; bin < want.length; bin++) {
             Check.due(what + ": bin " + bin, x.histogram(bin), want[bin]);
         }
+    }
+
+    private static void theFirstCycleIsFromTimeZero() {
+        ChamberPacer x = new ChamberPacer();
+        Check.due("V is sensed", Check.spikeV(x, 74), 2);
+        are("a first cycle of 74", x, 0, 0, 1, 0, 0, 0, 0, 0);
+        ChamberPacer y = new ChamberPacer();
+        Check.due("V is sensed", Check.spikeV(y, 75), 2);
+        are("a first cycle of 75", y, 0, 0, 0, 1, 0, 0, 0, 0);
     }
 
     private static void cyclesAreInTheirBins() {

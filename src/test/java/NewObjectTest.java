@@ -1,7 +1,5 @@
 /** Promise 1: parameters as at first, time 0, and all else that the terms say of the first moment. */
 public final class NewObjectTest {
-    private static final int[] AT_FIRST = {7, 100, 50, 15, 25, 30, 20, 4, 0, 10, 20, 0, 50, 25};
-
     public static void main(String[] args) {
         ChamberPacer used = Check.settled(0, 3, 1, 40);
         used.battery(0);
@@ -13,8 +11,8 @@ public final class NewObjectTest {
     }
 
     private static void isAsAtFirst(ChamberPacer x) {
-        for (int k = 0; k < AT_FIRST.length; k++) {
-            Check.due("parameter " + k, x.parameter(k), AT_FIRST[k]);
+        for (int k = 0; k < Check.AT_FIRST.length; k++) {
+            Check.due("parameter " + k, x.parameter(k), Check.AT_FIRST[k]);
             Check.due("waiting " + k, x.waiting(k), ChamberPacer.NONE);
         }
         int[] since = {0, 0, 0, ChamberPacer.NONE};

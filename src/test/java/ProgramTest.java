@@ -1,9 +1,5 @@
 /** Promise 4: programming, what it answers and refuses, and when it comes in force. */
 public final class ProgramTest {
-    static final int[] LEAST = {0, 30, 20, 5, 10, 10, 5, 0, 0, 1, 1, 0, 25, 10};
-    static final int[] MOST = {7, 200, 120, 30, 60, 60, 60, 10, 60, 500, 500, 1, 150, 60};
-    private static final int[] AT_FIRST = {7, 100, 50, 15, 25, 30, 20, 4, 0, 10, 20, 0, 50, 25};
-
     public static void main(String[] args) {
         eachParameterHasItsRange();
         answersPendingOrElseInForce();
@@ -14,17 +10,17 @@ public final class ProgramTest {
     }
 
     private static void eachParameterHasItsRange() {
-        for (int k = 0; k < LEAST.length; k++) {
+        for (int k = 0; k < Check.LEAST.length; k++) {
             ChamberPacer x = new ChamberPacer();
-            Check.programRefuses(x, k, LEAST[k] - 1, IllegalArgumentException.class);
-            Check.programRefuses(x, k, MOST[k] + 1, IllegalArgumentException.class);
+            Check.programRefuses(x, k, Check.LEAST[k] - 1, IllegalArgumentException.class);
+            Check.programRefuses(x, k, Check.MOST[k] + 1, IllegalArgumentException.class);
             Check.programRefuses(x, k, Integer.MIN_VALUE, IllegalArgumentException.class);
             Check.programRefuses(x, k, Integer.MAX_VALUE, IllegalArgumentException.class);
             Check.due("nothing is pending of " + k, x.waiting(k), ChamberPacer.NONE);
-            Check.due("the value that " + k + " had", x.program(k, LEAST[k]), AT_FIRST[k]);
-            Check.due("the pending value that " + k + " had", x.program(k, MOST[k]), LEAST[k]);
-            Check.programRefuses(x, k, MOST[k] + 1, IllegalArgumentException.class);
-            Check.due("what is pending of " + k, x.waiting(k), MOST[k]);
+            Check.due("the value that " + k + " had", x.program(k, Check.LEAST[k]), Check.AT_FIRST[k]);
+            Check.due("the pending value that " + k + " had", x.program(k, Check.MOST[k]), Check.LEAST[k]);
+            Check.programRefuses(x, k, Check.MOST[k] + 1, IllegalArgumentException.class);
+            Check.due("what is pending of " + k, x.waiting(k), Check.MOST[k]);
         }
     }
 

@@ -32,10 +32,10 @@ public final class ReceiveTest {
         ChamberPacer x = new ChamberPacer();
         for (int k = 0; k < 14; k++) {
             Check.due("asks for " + k, Check.frame(x, 2, k, 0), x.parameter(k));
-            Check.due("programs the least of " + k, Check.frame(x, 1, k, ProgramTest.LEAST[k]), 0);
-            Check.due("the least is pending", x.waiting(k), ProgramTest.LEAST[k]);
-            Check.due("programs the most of " + k, Check.frame(x, 1, k, ProgramTest.MOST[k]), 0);
-            Check.due("the most is pending", x.waiting(k), ProgramTest.MOST[k]);
+            Check.due("programs the least of " + k, Check.frame(x, 1, k, Check.LEAST[k]), 0);
+            Check.due("the least is pending", x.waiting(k), Check.LEAST[k]);
+            Check.due("programs the most of " + k, Check.frame(x, 1, k, Check.MOST[k]), 0);
+            Check.due("the most is pending", x.waiting(k), Check.MOST[k]);
             Check.due("asks for what is in force", Check.frame(x, 2, k, 65535), x.parameter(k));
         }
         ChamberPacer y = new ChamberPacer();
@@ -121,9 +121,9 @@ public final class ReceiveTest {
             Check.due("asks for parameter " + number, Check.frame(x, 2, number, 1), -3);
         }
         for (int k = 0; k < 14; k++) {
-            Check.due("above the range of " + k, Check.frame(x, 1, k, ProgramTest.MOST[k] + 1), -3);
-            if (ProgramTest.LEAST[k] > 0) {
-                Check.due("below the range of " + k, Check.frame(x, 1, k, ProgramTest.LEAST[k] - 1), -3);
+            Check.due("above the range of " + k, Check.frame(x, 1, k, Check.MOST[k] + 1), -3);
+            if (Check.LEAST[k] > 0) {
+                Check.due("below the range of " + k, Check.frame(x, 1, k, Check.LEAST[k] - 1), -3);
             }
             Check.due("nothing is pending of " + k, x.waiting(k), ChamberPacer.NONE);
         }
