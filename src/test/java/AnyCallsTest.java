@@ -6,11 +6,12 @@ public final class AnyCallsTest {
 
     public static void main(String[] args) {
         Random random = new Random(20261115);
-        for (int object = 0; object < 300; object++) {
+        for (int object = 0; object < 1800; object++) {
             ChamberPacer x = new ChamberPacer();
-            for (int call = 0; call < 512; call++) {
+            // A turn is six calls at most (a frame): 85 turns stay below the 512 calls of an object.
+            for (int turn = 0; turn < 85; turn++) {
                 String fault = faultOf(x, random);
-                Check.due("object " + object + ", call " + call + " " + fault, fault.isEmpty(), true);
+                Check.due("object " + object + ", turn " + turn + " " + fault, fault.isEmpty(), true);
             }
         }
         Check.end();

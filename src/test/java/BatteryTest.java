@@ -5,6 +5,8 @@ public final class BatteryTest {
         theStatusNeverFalls();
         anEmptyCellAsksForSafety();
         itAsksOnce();
+        itAsksWhateverTheStatusWas();
+        theSameReadingChangesNothing();
         Check.end();
     }
 
@@ -54,8 +56,33 @@ public final class BatteryTest {
         x.battery(100);
         x.battery(300);
         x.battery(Integer.MIN_VALUE);
-        for (int k = 0; k < 14; k++) {
-            Check.due("nothing waits: " + k, x.waiting(k), ChamberPacer.NONE);
+        Check.nothingWaits("asked once", x);
+    }
+
+    private static void itAsksWhateverTheStatusWas() {
+        for (int reading : new int[] {280, 279, 249}) {
+            ChamberPacer x = new ChamberPacer();
+            x.battery(reading);
+            Check.nothingWaits("not yet at " + reading, x);
+            x.battery(219);
+            Check.due("MODE waits behind " + reading, x.waiting(0), 3);
+            Check.due("LOWER waits behind " + reading, x.waiting(1), 100);
+            Check.due("WAIT waits behind " + reading, x.waiting(8), 0);
+            Check.due("RATE waits behind " + reading, x.waiting(11), 0);
         }
+    }
+
+    /** Pending parameters go with the cell's becoming empty alone. */
+    private static void theSameReadingChangesNothing() {
+        ChamberPacer x = new ChamberPacer();
+        x.battery(220);
+        Check.ask(x, 2, 60);
+        Check.due("status 2 again", x.battery(220), 2);
+        Check.due("what is pending stays", x.waiting(2), 60);
+        ChamberPacer y = new ChamberPacer();
+        y.battery(0);
+        int[] before = Check.state(y);
+        Check.due("status 3 again", y.battery(0), 3);
+        Check.same("what is asked for stays", Check.state(y), before);
     }
 }

@@ -1,3 +1,5 @@
+import java.util.Arrays;
+
 /** What the tests share: comparing answers, and bringing a pacer to where a test begins. */
 final class Check {
     /** When the first cycle of a new, quiet object ends: A is paced at 85, V at 100. */
@@ -90,14 +92,57 @@ final class Check {
         return x.tick(50, 50, 0);
     }
 
+    /** All that can be asked of a pacer, in 71 calls. */
+    static int[] state(ChamberPacer x) {
+        int[] state = new int[71];
+        int n = 0;
+        for (int k = 0; k < 14; k++) {
+            state[n++] = x.parameter(k);
+            state[n++] = x.waiting(k);
+        }
+        for (int which = 0; which < 4; which++) {
+            state[n++] = x.since(which);
+        }
+        for (int which = 0; which < 6; which++) {
+            state[n++] = x.value(which);
+        }
+        state[n++] = x.fallback() ? 1 : 0;
+        for (int k = 0; k < 12; k++) {
+            state[n++] = x.marker(k, 0);
+            state[n++] = x.marker(k, 1);
+        }
+        for (int bin = 0; bin < 8; bin++) {
+            state[n++] = x.histogram(bin);
+        }
+        return state;
+    }
+
+    static void same(String what, int[] got, int[] want) {
+        due(what + " " + Arrays.toString(got), Arrays.equals(got, want), true);
+    }
+
+    /** Nothing is pending. */
+    static void nothingWaits(String what, ChamberPacer x) {
+        for (int k = 0; k < 14; k++) {
+            due(what + ": waiting(" + k + ")", x.waiting(k), ChamberPacer.NONE);
+        }
+    }
+
+    /** Sends the bytes as they are; answers what the last one answered. */
+    static int bytes(ChamberPacer x, int... bytes) {
+        int answer = ChamberPacer.NONE;
+        for (int b : bytes) {
+            answer = x.receive(b);
+        }
+        return answer;
+    }
+
     /** Sends a frame with a right sum; answers what its last byte answered. */
     static int frame(ChamberPacer x, int command, int number, int value) {
-        int[] bytes = {command, number, value >> 8, value & 255};
+        int[] summed = {command, number, value >> 8, value & 255};
         x.receive(126);
-        for (int b : bytes) {
-            x.receive(b);
-        }
-        return x.receive(sum(bytes));
+        bytes(x, summed);
+        return x.receive(sum(summed));
     }
 
     /** The remainder of the bytes, as one polynomial over two elements, by x^8 + x^2 + x + 1. */

@@ -8,6 +8,7 @@ public final class FallbackTest {
         for (int mode = 5; mode <= 7; mode += 2) {
             fiveFastSensesBeginIt(mode);
             itDoesNotFollow(mode);
+            theFifthIsNotFollowed(mode);
             threeSlowSensesEndIt(mode);
             aFastSenseKeepsIt(mode);
             anotherModeEndsIt(mode);
@@ -63,6 +64,21 @@ public final class FallbackTest {
         Check.due("the fast count", x.value(FAST), 6);
         Check.due("AV does not run", x.since(AV), ChamberPacer.NONE);
         Check.due("fallback begins once", x.marker(0, 0), 0);
+        Check.due("no pace before L", Check.quiet(x, 179), 0);
+        Check.due("V at L", x.tick(0, 0, 0), 8);
+    }
+
+    private static void theFifthIsNotFollowed(int mode) {
+        ChamberPacer x = roomy(mode);
+        Check.quiet(x, 10);
+        for (int i = 0; i < 4; i++) {
+            Check.spikeA(x, 20);
+        }
+        Check.due("V is paced by UPPER", Check.quiet(x, 30), 1);
+        Check.due("four are not enough", x.fallback(), false);
+        Check.due("the fifth, in a new cycle", Check.spikeA(x, 20), 1);
+        Check.due("it begins fallback", x.fallback(), true);
+        Check.due("it begins no AV", x.since(AV), ChamberPacer.NONE);
         Check.due("no pace before L", Check.quiet(x, 179), 0);
         Check.due("V at L", x.tick(0, 0, 0), 8);
     }

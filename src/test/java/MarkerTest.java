@@ -28,16 +28,20 @@ public final class MarkerTest {
     }
 
     private static void twelveAreKept() {
-        ChamberPacer x = new ChamberPacer();
-        for (int cycles = 1; cycles <= 20; cycles++) {
-            Check.quiet(x, 100);
-            int kept = Math.min(12, 2 * cycles);
+        for (int events = 0; events <= 37; events++) {
+            ChamberPacer x = new ChamberPacer();
+            Check.quiet(x, timeOf(events));
+            int kept = Math.min(12, events);
             for (int k = 0; k < kept; k++) {
-                int end = 100 * (cycles - k / 2);
-                is(x, k, k % 2 == 0 ? 3 : 2, k % 2 == 0 ? end : end - 15);
+                is(x, k, (events - k) % 2 == 0 ? 3 : 2, timeOf(events - k));
             }
             is(x, kept, ChamberPacer.NONE, ChamberPacer.NONE);
         }
+    }
+
+    /** When the n-th event of a quiet pacer is: A is paced at 85, V at 100 of each cycle. */
+    private static int timeOf(int n) {
+        return n % 2 == 0 ? 50 * n : 50 * (n - 1) + 85;
     }
 
     private static void markersOfOneTickAreInOrder() {
@@ -70,6 +74,7 @@ public final class MarkerTest {
     }
 
     private static void otherNumbersAnswerNone() {
+        noneWhereThereIsNone();
         ChamberPacer x = new ChamberPacer();
         Check.quiet(x, 1000);
         for (int which = 0; which <= 1; which++) {
@@ -79,6 +84,15 @@ public final class MarkerTest {
         }
         for (int which : new int[] {-1, 2, 3, Integer.MIN_VALUE, Integer.MAX_VALUE}) {
             Check.due("marker(0, " + which + ")", x.marker(0, which), ChamberPacer.NONE);
+        }
+    }
+
+    private static void noneWhereThereIsNone() {
+        ChamberPacer x = new ChamberPacer();
+        for (int k : new int[] {-1, 0, 1, 11, 12}) {
+            for (int which = -1; which <= 2; which++) {
+                Check.due("of a new object, marker(" + k + ", " + which + ")", x.marker(k, which), ChamberPacer.NONE);
+            }
         }
     }
 }

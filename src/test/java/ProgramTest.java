@@ -6,6 +6,7 @@ public final class ProgramTest {
         refusesWhatIsNotThere();
         refusesWhenTheCellIsEmpty();
         waitsForTheLeadingChamber();
+        theModeInForceTellsWhoLeads();
         Check.end();
     }
 
@@ -79,5 +80,17 @@ public final class ProgramTest {
         z.program(1, 70);
         Check.quiet(z, 150);
         Check.due("at a pace of A where A leads", z.parameter(1), 70);
+    }
+
+    private static void theModeInForceTellsWhoLeads() {
+        ChamberPacer x = Check.settled();
+        x.program(0, 4);
+        Check.spikeA(x, 40);
+        Check.due("a sense of A ends no cycle of mode 7", x.parameter(0), 7);
+        Check.quiet(x, 15);
+        Check.due("a pace of V does", x.parameter(0), 4);
+        x.program(0, 0);
+        Check.due("A is sensed", Check.spikeA(x, 30), 1);
+        Check.due("a sense of A ends a cycle of mode 4", x.parameter(0), 0);
     }
 }

@@ -8,6 +8,8 @@ public final class ReceiveTest {
         onlyEightBitsCount();
         aFrameMayHold126();
         theValueHasTwoBytes();
+        otherCallsMayComeBetweenBytes();
+        aFrameThatIsRefusedIsOver();
         refusesWrongSums();
         refusesWrongFrames();
         refusesWhenTheCellIsEmpty();
@@ -17,14 +19,12 @@ public final class ReceiveTest {
     private static void sumsThatAreKnown() {
         int[][] framesAndAnswers = {
             {1, 11, 0, 1, 253, 0}, {2, 1, 0, 0, 71, 100}, {1, 1, 0, 9, 66, -3},
-            {3, 1, 0, 9, 110, -3}, {2, 14, 0, 9, 63, -3}, {1, 1, 0, 50, 227, 0}};
+            {3, 1, 0, 9, 110, -3}, {2, 14, 0, 9, 63, -3}, {1, 1, 0, 50, 227, 0},
+            {0, 0, 0, 0, 0, -3}, {0, 0, 0, 1, 7, -3}, {0, 0, 0, 128, 137, -3}, {255, 255, 255, 255, 222, -3}};
         for (int[] row : framesAndAnswers) {
             ChamberPacer x = new ChamberPacer();
-            x.receive(126);
-            for (int i = 0; i < 4; i++) {
-                x.receive(row[i]);
-            }
-            Check.due("the frame with the sum " + row[4], x.receive(row[4]), row[5]);
+            int answer = Check.bytes(x, 126, row[0], row[1], row[2], row[3], row[4]);
+            Check.due("the frame with the sum " + row[4], answer, row[5]);
         }
     }
 
@@ -65,11 +65,10 @@ public final class ReceiveTest {
 
     private static void onlyEightBitsCount() {
         ChamberPacer x = new ChamberPacer();
-        int[] bytes = {126 + 256, 2 - 256, 1 + 0x10000, Integer.MIN_VALUE, 0x7FFFFF00};
-        for (int b : bytes) {
-            x.receive(b);
-        }
+        Check.bytes(x, 126 + 256, 2 - 256, 1 + 0x10000, Integer.MIN_VALUE, 0x7FFFFF00);
         Check.due("the lowest eight bits", x.receive(71 - 512), 100);
+        Check.bytes(x, -130, -254, -256 + 9, -1, -1);
+        Check.due("of numbers below 0", x.receive(Check.sum(2, 9, 255, 255) - 256), 10);
     }
 
     private static void aFrameMayHold126() {
@@ -89,23 +88,57 @@ public final class ReceiveTest {
 
     private static void theValueHasTwoBytes() {
         ChamberPacer x = new ChamberPacer();
+        Check.due("the higher byte first", Check.bytes(x, 126, 1, 9, 1, 2, Check.sum(1, 9, 1, 2)), 0);
+        Check.due("258 is pending", x.waiting(9), 258);
         Check.due("300", Check.frame(x, 1, 10, 300), 0);
         Check.due("300 is pending", x.waiting(10), 300);
         Check.due("the higher byte counts", Check.frame(x, 1, 1, 256 + 100), -3);
+        for (int value : new int[] {0, 256, 32767, 32768, 65535}) {
+            Check.due("LOWER " + value, Check.frame(x, 1, 1, value), -3);
+        }
         Check.due("nothing is pending", x.waiting(1), ChamberPacer.NONE);
+    }
+
+    private static void otherCallsMayComeBetweenBytes() {
+        ChamberPacer x = new ChamberPacer();
+        x.receive(126);
+        x.tick(0, 0, 0);
+        x.receive(1);
+        x.battery(300);
+        x.receive(11);
+        x.program(2, 60);
+        x.receive(0);
+        Check.programRefuses(x, 2, 121, IllegalArgumentException.class);
+        x.receive(1);
+        x.run(60, 0, 0, 0);
+        x.run(61, 0, 0, 0);
+        Check.due("the frame goes on", x.receive(253), 0);
+        ChamberPacer y = new ChamberPacer();
+        Check.bytes(y, 126, 1, 11, 0, 1);
+        y.battery(0);
+        Check.due("the status is looked at when the frame ends", y.receive(253), -4);
+    }
+
+    private static void aFrameThatIsRefusedIsOver() {
+        ChamberPacer x = new ChamberPacer();
+        Check.due("a wrong sum of 126", Check.bytes(x, 126, 1, 11, 0, 1, 126), -2);
+        for (int b : new int[] {2, 1, 0, 0, 71}) {
+            Check.due("it begins no frame: " + b, x.receive(b), ChamberPacer.NONE);
+        }
+        Check.due("behind -2", Check.frame(x, 3, 1, 0), -3);
+        Check.due("behind -3", Check.frame(x, 2, 1, 0), 100);
+        x.battery(0);
+        Check.due("behind an answer", Check.frame(x, 1, 1, 100), -4);
+        Check.due("behind -4", Check.frame(x, 2, 1, 0), 100);
     }
 
     private static void refusesWrongSums() {
         ChamberPacer x = new ChamberPacer();
         for (int bit = 0; bit < 8; bit++) {
-            for (int b : new int[] {126, 1, 11, 0, 1}) {
-                x.receive(b);
-            }
+            Check.bytes(x, 126, 1, 11, 0, 1);
             Check.due("a sum with another bit", x.receive(253 ^ 1 << bit), -2);
         }
-        for (int b : new int[] {126, 9, 99, 9, 9}) {
-            x.receive(b);
-        }
+        Check.bytes(x, 126, 9, 99, 9, 9);
         Check.due("a wrong sum of a wrong frame", x.receive(Check.sum(9, 99, 9, 9) ^ 1), -2);
         Check.due("nothing is pending", x.waiting(11), ChamberPacer.NONE);
         Check.due("a frame behind a wrong one", Check.frame(x, 1, 11, 1), 0);

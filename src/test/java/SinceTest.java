@@ -10,6 +10,7 @@ public final class SinceTest {
         avRunsFromAToV();
         avDoesNotRunWithoutCause();
         theyGrowTo1000();
+        eventsBeginThemAnewFrom1000();
         otherNumbersAnswerNone();
         Check.end();
     }
@@ -85,8 +86,28 @@ public final class SinceTest {
         Check.due("SINCE A at most", x.since(A), 1000);
         Check.due("SINCE P at most", x.since(P), 1000);
         ChamberPacer y = Check.settled(0, 1);
-        Check.quiet(y, 1001);
+        Check.quiet(y, 999);
+        Check.due("SINCE V at 999", y.since(V), 999);
+        y.tick(0, 0, 0);
+        Check.due("SINCE V at 1000", y.since(V), 1000);
+        y.tick(0, 0, 0);
         Check.due("SINCE V at most", y.since(V), 1000);
+    }
+
+    private static void eventsBeginThemAnewFrom1000() {
+        ChamberPacer x = Check.settled(0, 0);
+        Check.quiet(x, 1200);
+        x.program(0, 1);
+        Check.quiet(x, 100);
+        are("V paced for the last time", x, 1000, 0, 1000, ChamberPacer.NONE);
+        x.tick(0, 0, 0);
+        are("A paced for the first time", x, 0, 1, 0, ChamberPacer.NONE);
+        Check.quiet(x, 1100);
+        x.program(0, 2);
+        Check.quiet(x, 99);
+        are("before both", x, 99, 1000, 99, ChamberPacer.NONE);
+        x.tick(0, 0, 0);
+        are("both paced", x, 0, 0, 0, ChamberPacer.NONE);
     }
 
     private static void otherNumbersAnswerNone() {

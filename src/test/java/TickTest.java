@@ -8,6 +8,7 @@ public final class TickTest {
     public static void main(String[] args) {
         eachModePacesItsChambers();
         eachModeSensesItsChambers();
+        theFirstCountsAreFromTimeZero();
         ventricularSenseHasRestAndBlank();
         atrialSenseHasRestAndShadow();
         shadowIsForModesLedByV();
@@ -17,6 +18,10 @@ public final class TickTest {
         otherRulesAreThoseBehindTheBoundary();
         delayAndUpperHoldVBack();
         anAtrialEventSparesTheAtrialPace();
+        anAtrialEventBeforeAnyVentricularOneCounts();
+        aSenseOfASparesItsPace();
+        delayMayBeAllOfL();
+        whatIsLongDueIsPacedAtOnce();
         aSecondSenseLeavesAvAlone();
         aSenseOfVSparesPaces();
         twoEventsInOneTick();
@@ -50,6 +55,18 @@ public final class TickTest {
             Check.due("A's spike in mode " + mode, Check.spikeA(Check.settled(0, mode), 60), ofA[mode]);
             Check.due("V's spike in mode " + mode, Check.spikeV(Check.settled(0, mode), 60), ofV[mode]);
             Check.due("both spikes in mode " + mode, Check.spikeBoth(Check.settled(0, mode), 60), ofBoth[mode]);
+        }
+    }
+
+    private static void theFirstCountsAreFromTimeZero() {
+        Check.due("V at 29 of a new object", Check.spikeV(new ChamberPacer(), 29), 0);
+        Check.due("V at 30 of a new object", Check.spikeV(new ChamberPacer(), 30), V_SENSED);
+        Check.due("A at 24 of a new object", Check.spikeA(new ChamberPacer(), 24), 0);
+        Check.due("A at 25 of a new object", Check.spikeA(new ChamberPacer(), 25), A_SENSED);
+        ChamberPacer x = new ChamberPacer();
+        for (int n = 1; n <= 100; n++) {
+            int want = n == 85 ? A_PACED : n == 100 ? V_PACED : 0;
+            Check.due("quiet tick " + n + " of a new object", x.tick(0, 0, 0), want);
         }
     }
 
@@ -204,6 +221,55 @@ public final class TickTest {
         Check.due("V sensed behind A's pace", Check.spikeV(y, 5), V_SENSED);
         Check.quiet(y, 84);
         Check.due("A is paced L - DELAY behind V's sense", y.tick(0, 0, 0), A_PACED);
+    }
+
+    private static void anAtrialEventBeforeAnyVentricularOneCounts() {
+        ChamberPacer x = new ChamberPacer();
+        Check.due("A sensed in the first cycle", Check.spikeA(x, 80), A_SENSED);
+        Check.due("A is not paced at 85", Check.quiet(x, 14), 0);
+        Check.due("V is paced DELAY behind A", x.tick(0, 0, 0), V_PACED);
+    }
+
+    private static void aSenseOfASparesItsPace() {
+        for (int mode = 6; mode <= 7; mode++) {
+            ChamberPacer x = Check.settled(0, mode);
+            Check.due("A's sense where A is due", Check.spikeA(x, 85), A_SENSED);
+            Check.due("none before V", Check.quiet(x, 14), 0);
+            Check.due("V is paced at L", x.tick(0, 0, 0), V_PACED);
+        }
+        ChamberPacer y = Check.settled(0, 4);
+        Check.due("A's sense where A, leading, is due", Check.spikeA(y, 85), A_SENSED);
+    }
+
+    private static void delayMayBeAllOfL() {
+        ChamberPacer x = Check.settled(0, 6, 1, 30, 3, 30, 5, 10);
+        Check.due("L - DELAY is 0: A at once", x.tick(0, 0, 0), A_PACED);
+        Check.due("none before L", Check.quiet(x, 28), 0);
+        Check.due("V at L, A not in the same tick", x.tick(0, 0, 0), V_PACED);
+        Check.due("A at once", x.tick(0, 0, 0), A_PACED);
+        Check.due("V's sense spares A's pace", Check.spikeV(x, 15), V_SENSED);
+        Check.due("A in the next tick", x.tick(0, 0, 0), A_PACED);
+        ChamberPacer y = Check.settled(0, 2, 1, 30, 3, 30, 11, 1, 12, 25);
+        Check.steady(y, 780, 255);
+        for (int left = 30; left > 0 && y.since(1) != 0; left--) {
+            y.tick(0, 0, 255);
+        }
+        Check.due("L is less than DELAY", y.value(0), 26);
+        Check.due("L - DELAY is below 0: A at once", y.tick(0, 0, 255), A_PACED);
+        Check.due("none before L", Check.steady(y, 24, 255), 0);
+        Check.due("V at L", y.tick(0, 0, 255), V_PACED);
+    }
+
+    private static void whatIsLongDueIsPacedAtOnce() {
+        ChamberPacer x = Check.settled(0, 0);
+        Check.quiet(x, 200);
+        x.program(0, 1);
+        Check.quiet(x, 99);
+        Check.due("V's pace puts mode 1 in force", x.tick(0, 0, 0), V_PACED);
+        Check.due("A, 316 behind its last pace", x.tick(0, 0, 0), A_PACED);
+        x.program(0, 0);
+        Check.quiet(x, 99);
+        Check.due("A's pace puts mode 0 in force, V is 101 behind", x.tick(0, 0, 0), A_PACED + V_PACED);
     }
 
     private static void aSecondSenseLeavesAvAlone() {

@@ -9,6 +9,7 @@ public final class ValueTest {
 
     public static void main(String[] args) {
         theLevelFollowsActivity();
+        theLevelHasEnds();
         activityIsTakenAsTheNearest();
         theGoalIsCut();
         theIntervalGoesByFour();
@@ -39,9 +40,18 @@ public final class ValueTest {
         ChamberPacer y = new ChamberPacer();
         levels(y, 1, 2, 3, 4, 5, 6, 7, 8, 9, 9);
         levels(y, 0, 9, 9);
-        ChamberPacer z = new ChamberPacer();
-        Check.steady(z, 60, 255);
-        Check.due("the highest level", z.value(LEVEL), 4073);
+    }
+
+    private static void theLevelHasEnds() {
+        ChamberPacer x = new ChamberPacer();
+        Check.steady(x, 60, 255);
+        Check.due("the highest level", x.value(LEVEL), 4073);
+        Check.steady(x, 600, 255);
+        Check.due("the highest level, later", x.value(LEVEL), 4073);
+        Check.quiet(x, 600);
+        Check.due("it falls to less than 32", x.value(LEVEL), 31);
+        Check.quiet(x, 600);
+        Check.due("it stays there", x.value(LEVEL), 31);
     }
 
     private static void activityIsTakenAsTheNearest() {
@@ -58,7 +68,7 @@ public final class ValueTest {
 
     /** The level is 510 at the boundary, an eighth of 4080, by the activity of that tick alone. */
     private static void theGoalIsCut() {
-        int[][] fastestAndInterval = {{92, 99}, {93, 100}, {84, 98}, {85, 99}, {50, 96}, {108, 101}, {107, 100}, {115, 101}};
+        int[][] fastestAndInterval = {{92, 99}, {93, 100}, {84, 98}, {85, 99}, {50, 96}, {108, 101}, {107, 100}, {115, 101}, {100, 100}};
         for (int[] row : fastestAndInterval) {
             ChamberPacer x = new ChamberPacer();
             x.program(12, row[0]);
