@@ -20,10 +20,10 @@ public final class RefusedCallsTest {
     private static ChamberPacer busy() {
         ChamberPacer x = Check.settled(0, 7, 1, 200, 2, 120, 4, 10, 6, 5, 8, 40, 13, 60);
         Check.spikeV(x, 60);
-        Check.quiet(x, 10);
-        for (int i = 0; i < 5; i++) {
-            Check.spikeA(x, 20);
+        for (int i = 0; i < 6; i++) {
+            Check.spikeA(x, 15);
         }
+        Check.due("in fallback", x.fallback(), true);
         Check.ask(x, 0, 6, 1, 90, 11, 1);
         x.battery(230);
         Check.steady(x, 5, 255);

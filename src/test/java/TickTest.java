@@ -74,12 +74,8 @@ public final class TickTest {
         Check.due("V at 29 of REST V 30", Check.spikeV(Check.settled(), 29), 0);
         Check.due("V at 30 of REST V 30", Check.spikeV(Check.settled(), 30), V_SENSED);
         Check.due("V at 30 of REST V 31", Check.spikeV(Check.settled(5, 31), 30), 0);
-        Check.due("V at 10 of REST V 10", Check.spikeV(Check.settled(5, 10), 10), V_SENSED);
         Check.due("V 3 behind a pace of A, BLANK 4", Check.spikeV(Check.settled(), 85 + 3), 0);
         Check.due("V 4 behind a pace of A, BLANK 4", Check.spikeV(Check.settled(), 85 + 4), V_SENSED);
-        Check.due("V 9 behind a pace of A, BLANK 10", Check.spikeV(Check.settled(7, 10), 85 + 9), 0);
-        Check.due("V 10 behind a pace of A, BLANK 10", Check.spikeV(Check.settled(7, 10), 85 + 10), V_SENSED);
-        Check.due("V 1 behind a pace of A, BLANK 0", Check.spikeV(Check.settled(7, 0), 85 + 1), V_SENSED);
         ChamberPacer x = Check.settled();
         Check.spikeA(x, 40);
         Check.due("V 1 behind a sense of A", x.tick(0, 50, 0), V_SENSED);
@@ -88,8 +84,6 @@ public final class TickTest {
     private static void atrialSenseHasRestAndShadow() {
         Check.due("A at 24 of SHADOW 25", Check.spikeA(Check.settled(), 24), 0);
         Check.due("A at 25 of SHADOW 25", Check.spikeA(Check.settled(), 25), A_SENSED);
-        Check.due("A at 59 of SHADOW 60", Check.spikeA(Check.settled(4, 60), 59), 0);
-        Check.due("A at 60 of SHADOW 60", Check.spikeA(Check.settled(4, 60), 60), A_SENSED);
         Check.due("A 44 behind itself, REST A 60", Check.spikeA(Check.settled(6, 60), 44), 0);
         Check.due("A 60 behind itself, REST A 60", Check.spikeA(Check.settled(6, 60), 45), A_SENSED);
         for (int apart = 19; apart <= 20; apart++) {
@@ -127,16 +121,6 @@ public final class TickTest {
         for (int n = 2; n <= 40; n++) {
             Check.due("a saw of two ticks, " + n, saw.tick(n % 2 == 0 ? 0 : 400, 0, 0), 0);
         }
-        Check.due("LIMIT A 500 at 499", limitsAtMost().tick(499, 0, 0), 0);
-        Check.due("LIMIT A 500 at 500", limitsAtMost().tick(500, 0, 0), A_SENSED);
-        Check.due("LIMIT V 500 at 499", limitsAtMost().tick(0, 499, 0), 0);
-        Check.due("LIMIT V 500 at 500", limitsAtMost().tick(0, 500, 0), V_SENSED);
-    }
-
-    private static ChamberPacer limitsAtMost() {
-        ChamberPacer x = Check.settled(9, 500, 10, 500);
-        Check.quiet(x, 39);
-        return x;
     }
 
     private static void samplesAreTakenAsTheNearest() {
